@@ -17,7 +17,7 @@ public final class CombedLight {
     private static final int MOST_START = 1000000, MOST_STEP = 100000;
     private static final int MOST_MATCHED = 9, MOST_MATCHES = 200;
     private static final int MOST_PLACE = 2000, MOST_SHIFT = 19, MOST_BEST = 8;
-    private static final int TOLD_KINDS = 8, DONE_KIND = 5;
+    private static final int TOLD_KINDS = 8;
     private static final int WAVE_UNKNOWN = -2000000000;
     private static final int WAVE_OUTSIDE = -2000000001;
     private static final int WAVE_STATE = -2000000002;
@@ -125,9 +125,6 @@ public final class CombedLight {
         }
 
         boolean isPeak(int x, long least) {
-            if (!has(x - 1) || !has(x) || !has(x + 1)) {
-                return false;
-            }
             return at(x) > at(x - 1) && at(x) >= at(x + 1) && at(x) >= least;
         }
 
@@ -600,7 +597,7 @@ public final class CombedLight {
                 return badCount();
             case 4:
                 return lawCount();
-            case DONE_KIND:
+            case 5:
                 return matchesDone;
             default:
                 return OUTSIDE;

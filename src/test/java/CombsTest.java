@@ -57,6 +57,10 @@ public final class CombsTest {
         x.law(c, 1, 2);
         int[] lawToldThen = {0, 0, 0, 5, 1, 1, 2, 0};
         tell(x, c, lawToldThen);
+        x.match(c, 1, 0);
+        Due.redraw(x, c, 0, 9, 0, 9);
+        int[] drawnThen = {0, 0, 0, 4, 0, 0, 0, 0};
+        tell(x, c, drawnThen);
         due.is("10: c below", x.told(-1, 9), CombedLight.UNKNOWN);
         due.is("10: c above", x.told(3, 9), CombedLight.UNKNOWN);
         due.is("10: what below", x.told(0, -1), CombedLight.OUTSIDE);
@@ -224,6 +228,7 @@ public final class CombsTest {
         due.is("13: draw again", x.draw(c, 4, 5, 0), 4);
         due.is("13: no law then", x.told(c, 4), 0);
         due.is("13: no A then", x.told(c, 5), 0);
+        due.is("13: no B then", x.told(c, 6), 0);
         due.is("13: count(4)", x.count(4), 0);
         Due.redraw(x, c, 8, 9);
         due.is("13: a shorter row", x.told(c, 3), 2);
@@ -273,6 +278,7 @@ public final class CombsTest {
         rayIs(x, "no rays told", new int[] {3, 1, 1, 0}, ones, 0, 5);
         rayIs(x, "only once", new int[] {0, 0, 0, 0, 0, 300, 301}, new int[] {1, 1, 1, 1, 1, 1, 1}, 1, 300);
         rayIs(x, "three rows", new int[] {0, 10, 300}, new int[] {20, 50, 20}, 3, 12);
+        rayIs(x, "three rows, not above 4 times", new int[] {0, 10, 300}, new int[] {20, 50, 20}, 4, 177);
         rayIs(x, "two rows", new int[] {10, 300}, new int[] {50, 20}, 1, 156);
         rayIs(x, "two rows with flat light", new int[] {7, 10, 300}, new int[] {0, 50, 20}, 1, 156);
         rayIs(x, "no light", new int[] {0, 0, 0}, new int[] {3, 4, 5}, 1, 0);

@@ -7,6 +7,7 @@ public final class JoinsTest {
     public static void main(String[] args) {
         join();
         joinOfNothing();
+        joinOfFour();
         joinBounds();
         joined();
         shift();
@@ -48,6 +49,18 @@ public final class JoinsTest {
         Due.redraw(x, c, 0, 0);
         Due.redraw(x, d, 0, 0);
         due.is("22: laws are gone", x.join(0, 1, 1), CombedLight.STATE);
+    }
+
+    private static void joinOfFour() {
+        CombedLight x = new CombedLight();
+        for (int i = 0; i < 4; i++) {
+            x.law(Due.row(x, i, 100000), 10, 10);
+        }
+        due.is("22: four rows", x.join(10, 10, 2), 2);
+        // Numbers 0 to 3 with weights 1 to 4: 20 by 10.
+        due.is("22: of four small numbers", x.joined(0), 2);
+        due.is("22: of four great numbers", x.joined(1), 100000);
+        due.is("22: count(4)", x.count(4), 4);
     }
 
     private static void joinBounds() {

@@ -14,6 +14,8 @@ public final class LawsTest {
         matchBounds();
         matchBetweenColumns();
         matchOfFourPeaks();
+        matchOfNinePeaks();
+        matchForgetsWhatIsGone();
         matchRefused();
         law();
         wave();
@@ -36,6 +38,10 @@ public final class LawsTest {
         due.is("15: c below", x.peaks(-1, 0), CombedLight.UNKNOWN);
         Due.redraw(x, c, 5, 5, 3);
         due.is("15: like the left one", x.peaks(c, 1), 0);
+        Due.redraw(x, c, 1, 2, 3, 4, 5);
+        due.is("15: a row that climbs", x.peaks(c, 1), 0);
+        Due.redraw(x, c, 5, 4, 3, 2, 1);
+        due.is("15: a row that falls", x.peaks(c, 1), 0);
         Due.redraw(x, c, 0, 0, 0, 0);
         due.is("15: no light", x.peaks(c, 1), 0);
         Due.redraw(x, c, 1, 2);
@@ -211,6 +217,45 @@ public final class LawsTest {
         due.is("19: A of four", x.told(c, 5), 500);
         due.is("19: B of four", x.told(c, 6), 7);
         due.is("19: fitted of four", x.told(c, 7), 4);
+    }
+
+    private static void matchOfNinePeaks() {
+        CombedLight x = new CombedLight();
+        int c = Due.row(x, 0, 5, 0, 5, 0, 5, 0, 5, 0, 5, 0, 5, 0, 5, 0, 5, 0, 5, 0, 5);
+        due.is("19: nine peaks are the most", x.peaks(c, 1), 9);
+        for (int i = 1; i <= 9; i++) {
+            x.line(1000 + 20 * i);
+        }
+        due.is("19: nine peaks", x.match(c, 1, 0), 9);
+        due.is("19: A of nine", x.told(c, 5), 1010);
+        due.is("19: B of nine", x.told(c, 6), 10);
+    }
+
+    private static void matchForgetsWhatIsGone() {
+        CombedLight x = new CombedLight();
+        int c = Due.row(x, 0, 9, 0, 9, 0, 5, 0);
+        x.line(10);
+        x.line(20);
+        x.line(30);
+        due.is("19: three lines", x.match(c, 1, 0), 3);
+        x.clear();
+        x.line(10);
+        x.line(20);
+        due.is("19: two lines are left", x.match(c, 1, 0), 2);
+        x.clear();
+        x.line(100);
+        x.line(200);
+        due.is("19: three peaks", x.peaks(c, 1), 3);
+        // With the third peak's place (320) B would be 25, and E 50 would let both peaks fit it.
+        due.is("19: two peaks are left", x.match(c, 6, 50), 2);
+        due.is("19: B of the two", x.told(c, 6), 50);
+        for (int i = 3; i <= 12; i++) {
+            x.line(100 * i);
+        }
+        due.is("19: twelve lines", x.match(c, 1, 0), 3);
+        due.is("19: B of twelve lines", x.told(c, 6), 50);
+        due.is("19: A of twelve lines", x.told(c, 5), 50);
+        due.is("19: no line is near", x.law(c, 5, 5) + x.match(c, 10, 0), 1);
     }
 
     private static void matchRefused() {

@@ -65,9 +65,10 @@ public final class PlatesTest {
         due.is("2: no cause so far but the look", x.cause(), 2);
         due.is("2: causes(3)", x.causes(3), 0);
         due.is("2: w below", x.plate(0, 0, -1, 20), -13);
-        due.is("2: h below", x.plate(0, 0, 20, LEAST), -13);
+        due.is("2: h below", x.plate(0, 0, 20, -1), -13);
+        due.is("2: h far below", x.plate(0, 0, 20, LEAST), -13);
         due.is("2: both below", x.plate(1, 0, -1, -1), -13);
-        due.is("2: causes(3) then", x.causes(3), 3);
+        due.is("2: causes(3) then", x.causes(3), 4);
         due.is("2: cause()", x.cause(), 3);
         due.is("2: plates held", x.count(0), 2);
         due.is("2: plate 0 is as it was", x.look(0, 0, 0), 1);
@@ -171,6 +172,7 @@ public final class PlatesTest {
         due.is("5: an int wraps", Due.at(x, 0, 0, 0), MOST);
         due.is("5: from itself", x.less(0, 0), 1);
         due.is("5: nothing is left", Due.at(x, 0, 0, 0), 0);
+        lessOfRows();
         due.is("5: s", x.less(-1, 2), CombedLight.UNKNOWN);
         due.is("5: t", x.less(2, 6), CombedLight.UNKNOWN);
         due.is("5: s lost", x.less(2, 0), -11);
@@ -181,6 +183,16 @@ public final class PlatesTest {
         due.is("5: other w", x.less(2, 0), -15);
         due.is("5: causes(5)", x.causes(5), 2);
         due.is("5: cause()", x.cause(), 5);
+    }
+
+    private static void lessOfRows() {
+        CombedLight x = new CombedLight();
+        Due.stand(x, 0, 1, 2, 3);
+        Due.stand(x, 1, 10, 20, 30);
+        due.is("5: three rows", x.less(0, 1), 1);
+        for (int y = 0; y < 3; y++) {
+            due.is("5: row " + y, Due.at(x, 1, 0, y), 9 * (y + 1));
+        }
     }
 
     private static void lose() {

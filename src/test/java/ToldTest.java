@@ -100,7 +100,7 @@ public final class ToldTest {
         x.line(30);
         x.line(40);
         x.bad(3, 4, true);
-        x.bad(4, 3, true);
+        x.bad(0, 0, true);
         x.bad(4, 4, true);
         x.bad(4, 4, true);
         x.bad(5, 5, true);
@@ -187,6 +187,15 @@ public final class ToldTest {
         due.is("30: what was joined is not in it", x.digest(), met[7]);
         x.lose(0);
         due.is("30: nor are causes", x.digest(), met[7]);
+        CombedLight y = new CombedLight();
+        y.plate(5, 2, 1, 1);
+        y.bad(0, 0, true);
+        y.look(5, 0, 0);
+        long h = 113;
+        for (long number : new long[] {-1, -1, -1, -1, -1, 2, 1, 1, 0, 0, 0, 0}) {
+            h = 31 * h + number;
+        }
+        due.is("30: the cell (0, 0) is bad", y.digest(), h);
     }
 
     private static void refusalsChangeNothing() {
