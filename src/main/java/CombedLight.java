@@ -556,19 +556,13 @@ public final class CombedLight {
         if (first.columns == 0 || second.columns == 0) {
             return BEST_EMPTY;
         }
-        int best = 0;
-        long greatest = crossSum(first, second, 0);
+        int found = 0;
         // Least size first, then the lesser: of like sums the one met first stays.
         for (int size = 1; size <= MOST_BEST; size++) {
-            for (int s = -size; s <= size; s += 2 * size) {
-                long sum = crossSum(first, second, s);
-                if (sum > greatest) {
-                    greatest = sum;
-                    best = s;
-                }
-            }
+            found = betterShift(first, second, found, -size);
+            found = betterShift(first, second, found, size);
         }
-        return best;
+        return found;
     }
 
     // ---- what is told
@@ -826,6 +820,10 @@ public final class CombedLight {
             }
         }
         return NONE;
+    }
+
+    private static int betterShift(Comb first, Comb second, int found, int other) {
+        return crossSum(first, second, other) > crossSum(first, second, found) ? other : found;
     }
 
     private static long crossSum(Comb first, Comb second, int s) {

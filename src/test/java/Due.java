@@ -2,19 +2,43 @@
 final class Due {
     private int wrong;
     private int looked;
+    private String sentence = "";
+    private int lookedBefore = -1;
+
+    /** Names the document's sentence that the answers behind it belong to; one without any answer is wrong. */
+    void of(String told) {
+        endSentence();
+        sentence = told + " | ";
+        lookedBefore = looked;
+    }
 
     void is(String call, long got, long want) {
         looked++;
         if (got != want) {
             wrong++;
-            System.out.println(call + " answered " + got + ", due is " + want);
+            System.out.println(sentence + call + " answered " + got + ", due is " + want);
+        }
+    }
+
+    void same(String call, long[] got, long[] want) {
+        is(call + ", how many", got.length, want.length);
+        for (int i = 0; i < got.length && i < want.length; i++) {
+            is(call + ", number " + i, got[i], want[i]);
         }
     }
 
     void end() {
+        endSentence();
         System.out.println(looked + " answers looked at, " + wrong + " not as due");
         if (wrong != 0 || looked == 0) {
             System.exit(1);
+        }
+    }
+
+    private void endSentence() {
+        if (looked == lookedBefore) {
+            wrong++;
+            System.out.println(sentence + "no answer was looked at");
         }
     }
 
