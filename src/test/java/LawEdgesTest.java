@@ -373,19 +373,20 @@ public final class LawEdgesTest {
 
     private static void matchDone200Times() {
         due.of("19: FULL: it was done 200 times");
-        CombedLight x = lined(of(0, 9, 0, 9, 0), 100, 200);
-        for (int i = 1; i <= 199; i++) {
-            x.match(0, i % 2 == 0 ? 1 : 10, 0);
+        CombedLight x = Scene.open();
+        for (int done = 1; done < 199; done++) {
+            x.match(0, done % 2 == 0 ? 1 : 61, 1);
         }
         due.is("a refused one", x.match(0, 0, 0), CombedLight.OUTSIDE);
-        due.is("another", x.match(1, 1, 0), CombedLight.UNKNOWN);
+        due.is("another", x.match(3, 1, 0), CombedLight.UNKNOWN);
         due.is("those are not done", x.count(5), 199);
-        due.is("the 200th", x.match(0, 1, 0), 2);
-        due.is("done then", x.count(5), 200);
+        due.is("the 200th", x.match(0, 1, 1), 2);
+        due.is("it was done", x.count(5), 200);
         x.law(0, 3, 4);
-        edges.keeps(x, "the 201st", CombedLight.FULL, y -> y.match(0, 1, 0));
-        due.is("it would find none", x.match(0, 10, 0), CombedLight.FULL);
-        due.is("UNKNOWN ahead of FULL", x.match(1, 1, 0), CombedLight.UNKNOWN);
+        edges.keeps(x, "the 201st", CombedLight.FULL, y -> y.match(0, 1, 1));
+        due.is("the 202nd, which would find none", x.match(0, 61, 0), CombedLight.FULL);
+        due.is("of an empty ROW", x.match(2, 1, 0), CombedLight.FULL);
+        due.is("UNKNOWN ahead of FULL", x.match(3, 1, 0), CombedLight.UNKNOWN);
         due.is("OUTSIDE ahead of FULL, t", x.match(0, 0, 0), CombedLight.OUTSIDE);
         due.is("OUTSIDE ahead of FULL, e", x.match(0, 1, 10001), CombedLight.OUTSIDE);
         due.is("the LAW stays", x.told(0, 5), 3);
